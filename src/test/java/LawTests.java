@@ -41,6 +41,9 @@ final class LawTests {
         check.due("numbers that begin with 0", World.law(x, "fog 00 07;place 05 09 00;sun 00"), 3);
         check.due("FOG", x.placeOf(0, 2), 7);
         check.due("a marsh", x.placeOf(1, 0), 5);
+        check.due("zeros", World.law(x, "tender 0;fog 0 0;sun 0;place 0 0 0"), 4);
+        check.due("TENDER", x.status(9), 0);
+        check.due("FOG", x.placeOf(0, 2), 0);
     }
 
     private static void lawOfOtherSorts(Check check) {

@@ -32,6 +32,11 @@ final class RuleTests {
         rowIs(check, World.fields(90), 9, 1, 4, 1);
         rowIs(check, World.fields(90), 18, 1, 1, 4, 4);
         rowIs(check, new PaidInFog(), 0, 0, 0, 0, 0);
+        PaidInFog again = World.fields(90);
+        rowIs(check, again, 18, 1, 1, 4, 4);
+        rowIs(check, again, 9, 1, 4, 1);
+        rowIs(check, again, 9, 1, 4);
+        rowIs(check, again, 0, 1);
         PaidInFog x = World.fields(0);
         x.bottle(0, 50);
         x.bottle(0, 60);
@@ -170,6 +175,9 @@ final class RuleTests {
         check.due("99,999", x.latest(3, 48, 99999), -1);
         x.ask(6, 22);
         check.due("nothing is paid at hour 23", x.latest(0, 2, 9), -1);
+        x.ask(6, 21);
+        check.due("paid at hour 22", x.latest(0, 2, 9), 23);
+        x.ask(6, 22);
         check.due("it is paid next day", x.latest(1, 48, 1), 5);
         check.due("with all COINS there are", spentOnce().latest(0, 0, 9), 0);
         check.changesNothing("latest", World::busy, y -> y.latest(0, 48, 50));
@@ -200,6 +208,10 @@ final class RuleTests {
         check.due("2 v and 4 against v and 6", carryingOne().dear(7), 3);
         check.due("v against v and 5", carryingOne().dear(5), -1);
         check.due("nothing against nothing", carryingOne().dear(0), -1);
+        PaidInFog z = World.fields(15);
+        z.bottle(0, 75);
+        z.does(6);
+        check.due("4 against v", z.dear(2), 0);
         PaidInFog x = World.fields(90);
         check.due("greedy has more of them", x.dear(7), -1);
         x.ask(5, 50);
@@ -244,8 +256,10 @@ final class RuleTests {
         PaidInFog x = carryingOneWith(99 * 1009);
         check.due("108 are missing to 99,999", x.status(4), 99891);
         check.due("2 v against v and 5", x.dear(6), 6);
-        x.ask(4, 97);
-        check.due("of 2 v and v and 98 but 108 each", x.dear(6), -1);
+        x.ask(4, 52);
+        check.due("2 v against v and 53, just below", x.dear(6), 54);
+        x.ask(4, 53);
+        check.due("2 v against v and 54, but 108 each", x.dear(6), -1);
         PaidInFog y = carryingOneWith(99999);
         check.due("99,999 at most", y.status(4), 99999);
         check.due("neither rule brings more", y.dear(6), -1);

@@ -57,6 +57,8 @@ final class ShelfTests {
         check.due("element(0, 159)", x.element(0, 159), 0);
         check.due("row(0, 3, 160) again", x.row(0, 3, 160), 1);
         check.due("old elements are gone", x.element(0, 159), 0);
+        check.due("row(3, 2, 3)", x.row(3, 2, 3), 1);
+        elementsAre(check, "a new row", x, 3, 0, 0, 0);
         check.refused("row(-1, ..)", World::busy, y -> y.row(-1, 9, -1), -1);
         check.refused("row(8, ..)", World::busy, y -> y.row(8, 0, 1), -1);
         check.refused("row below 0", World::busy, y -> y.row(0, 4, -1), -4);
@@ -127,6 +129,9 @@ final class ShelfTests {
         x = twoRows();
         check.due("all of a row", x.copy(1, 0, 0, 2, 3), 1);
         elementsAre(check, "to the end", x, 0, 1, 2, 10, 20, 30);
+        x.row(4, 2, 160);
+        check.due("to the end of a long row", x.copy(0, 4, 2, 157, 3), 1);
+        check.due("its last element", x.element(4, 159), 30);
         check.due("none, at the ends", x.copy(0, 1, 5, 3, 0), 1);
         elementsAre(check, "none", x, 1, 10, 20, 30);
     }

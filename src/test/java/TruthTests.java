@@ -177,7 +177,11 @@ final class TruthTests {
         x.does(6);
         check.due("carried it lies nowhere", x.richest(), 2);
         check.changesNothing("richest", World::busy, PaidInFog::richest);
-        check.due("all carried", World.busy().richest(), 3);
+        check.due("two lie, one is carried", World.busy().richest(), 3);
+        PaidInFog y = World.fields(0, 0);
+        y.bottle(1, 50);
+        y.bottle(0, 5);
+        check.due("one of 4, the first bottle", y.richest(), 1);
     }
 
     private static void doesWalkAndGather(Check check) {
