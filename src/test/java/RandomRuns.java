@@ -9,7 +9,7 @@ import java.util.Random;
 /** Runs of drawn calls, each to the program and to the model; what they answer must be the same. */
 public final class RandomRuns {
     private static final int CALLS = 512;
-    private static final int RUNS = 150;
+    private static final int RUNS = 300;
 
     private final Random random;
     private final PaidInFog program = new PaidInFog();
@@ -52,6 +52,10 @@ public final class RandomRuns {
         for (int b = random.nextInt(style == 2 ? 14 : 5); b > 0 && style < 3; b--) {
             call("bottle", random.nextInt(8), 1 + random.nextInt(99));
         }
+        if (style == 1) {
+            call("ask", 1, 12 + random.nextInt(7));
+            call("ask", 2, 15 + random.nextInt(9));
+        }
         while (told.size() < CALLS && wrong.length() == 0) {
             step();
         }
@@ -65,6 +69,10 @@ public final class RandomRuns {
             tellDay();
         } else if (kind < 5) {
             tellFogs();
+        } else if (kind < 6) {
+            tellCopy();
+        } else if (kind < 8) {
+            tellKinds();
         } else if (kind < 25) {
             call("does", mostly(0, 6));
         } else if (kind < 35) {
@@ -231,6 +239,31 @@ public final class RandomRuns {
         }
         model.ask(0, wind - 1);
         call("tells", s, n);
+    }
+
+    private void tellCopy() {
+        int p = random.nextInt(8);
+        int q = random.nextInt(8);
+        int sort = random.nextInt(4);
+        call("row", p, sort, 5);
+        call("row", q, random.nextInt(6) == 0 ? random.nextInt(4) : sort, 7);
+        for (int i = 0; i < 5; i++) {
+            call("set", p, i, longer());
+        }
+        for (int i = 0; i < 4; i++) {
+            call("copy", p, q, mostly(0, 3), mostly(0, 4), mostly(0, 3));
+        }
+        for (int i = 0; i < 7; i++) {
+            call("element", q, i);
+        }
+    }
+
+    private void tellKinds() {
+        int s = random.nextInt(8);
+        call("show", s, place());
+        for (int kind = 0; kind < 7; kind++) {
+            call("says", s, kind);
+        }
     }
 
     private void call(String name, Object... args) {

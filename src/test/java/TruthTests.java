@@ -441,19 +441,21 @@ final class TruthTests {
     private static void restoreShelves(Check check) {
         check.promise(43);
         PaidInFog x = World.fields(10, 20);
-        x.show(0, 0);
         x.image();
         x.place(0, 0, 30);
         x.show(1, 1);
-        x.show(2, 2);
+        x.show(2, 0);
+        x.show(0, 2);
+        x.show(6, 2);
         World.rowOf(x, 3, 1, 66);
         World.law(x, "sun 19");
         x.act(0, 0, 1);
         x.each(9);
         check.due("restore()", x.restore(), 2);
-        check.due("a place that is there", x.holds(0), 0);
+        check.due("a place that is there", x.holds(2), 0);
         check.due("another", x.holds(1), 1);
-        check.due("one that is not", x.holds(2), -1);
+        check.due("one that is not", x.holds(0), -1);
+        check.due("again", x.holds(6), -1);
         check.due("a row", x.element(3, 0), 66);
         check.due("the FAULT stays", x.fault(), 4);
         check.due("THE TRACE stays", x.trace(0), 10);
