@@ -80,6 +80,90 @@ final class World {
         return x;
     }
 
+    /** Places of all kinds, the last of them a marsh, with twelve bottles: nothing more has room. */
+    static PaidInFog crowded() {
+        PaidInFog x = ofAllKinds();
+        x.place(MARSH, 7, 88);
+        for (int b = 0; b < 12; b++) {
+            x.bottle(b % 8, 99 - b);
+        }
+        return x;
+    }
+
+    /** You carry so many bottles of strength 90 and less, in a field without fog, at hour 0. */
+    static PaidInFog carrying(int bottles) {
+        PaidInFog x = fields(0, 0);
+        for (int b = 0; b < bottles; b++) {
+            x.bottle(0, 90);
+        }
+        for (int b = 0; b < bottles; b++) {
+            x.does(6);
+        }
+        x.ask(6, 0);
+        return x;
+    }
+
+    /** You carry bottles of these strengths in a vault without fog, with a field behind it, at hour 0. */
+    static PaidInFog carryingAll(int... strengths) {
+        PaidInFog x = alone(VAULT, 9, 0);
+        x.place(FIELD, 0, 0);
+        x.ask(1, 18);
+        for (int b = 0; b < strengths.length; b++) {
+            int later = 0;
+            for (int other = 0; other < strengths.length; other++) {
+                boolean isLater = strengths[other] < strengths[b] || strengths[other] == strengths[b] && other > b;
+                later += isLater ? 1 : 0;
+            }
+            // the strongest is taken first, so it leaks for the longest
+            x.bottle(0, strengths[b] + 3 * (later + 1));
+        }
+        for (int b = 0; b < strengths.length; b++) {
+            x.does(6);
+        }
+        x.ask(1, 7);
+        x.ask(6, 0);
+        return x;
+    }
+
+    /** You carry one bottle of this strength (96 at most), in a field without fog, at hour 0. */
+    static PaidInFog carryingStrength(int strength) {
+        PaidInFog x = fields(0);
+        x.bottle(0, strength + 3);
+        x.does(6);
+        x.ask(6, 0);
+        return x;
+    }
+
+    /** So many COINS; a marsh with fog 99, nothing carried, hour 0, and all that is asked for as at first. */
+    static PaidInFog rich(int coins) {
+        PaidInFog x = alone(MARSH, 9, 99);
+        x.ask(1, 18);
+        x.ask(2, 23);
+        pricesAre(x, coins % 99, coins % 99, coins % 99);
+        x.does(1);
+        x.does(4);
+        pricesAre(x, 99, 99, 99);
+        for (int missing = coins - x.status(4); missing > 0; missing = coins - x.status(4)) {
+            x.season(missing > 12000 ? 200 : missing > 2000 ? 20 : 1);
+        }
+        x.row(7, 0, 60);
+        x.done(7, 60);
+        x.show(7, -1);
+        pricesAre(x, 1, 4, 9);
+        int[][] first = {{0, 0}, {1, 7}, {2, 9}, {6, 0}};
+        for (int[] what : first) {
+            x.ask(what[0], what[1]);
+        }
+        x.fog(0, 99);
+        return x;
+    }
+
+    static void pricesAre(PaidInFog x, int one, int two, int three) {
+        x.ask(3, one);
+        x.ask(4, two);
+        x.ask(5, three);
+    }
+
     static void rowOf(PaidInFog x, int s, int sort, long... elements) {
         x.row(s, sort, elements.length);
         for (int i = 0; i < elements.length; i++) {
