@@ -16,6 +16,7 @@ final class HourEdges {
         put(check);
         take(check);
         takeTheStrongest(check);
+        leaks(check);
         leaksToNothing(check);
         leaksOfVaults(check);
         leakAfterTheAct(check);
@@ -31,6 +32,7 @@ final class HourEdges {
         clock(check);
         noPlaces(check);
         theEighthPlace(check);
+        theTwelfthBottle(check);
     }
 
     private static PaidInFog after(PaidInFog x, int... acts) {
@@ -206,6 +208,22 @@ final class HourEdges {
         x.bottle(0, strength);
         x.ask(6, hour);
         return x;
+    }
+
+    private static void leaks(Check check) {
+        check.sentence(37, "FIELD, BRIDGE, MARSH 4; CELLAR 2; VAULT 1, below HOUR a 0; HILL, PEAK 6; carried 3; twice "
+            + "that, if the sun is up.");
+        for (int hour = 0; hour <= 23; hour++) {
+            int times = hour >= 7 && hour <= 17 ? 2 : 1;
+            for (int kind = 0; kind < 7; kind++) {
+                PaidInFog x = lying(kind, 0, 50, hour);
+                check.due("told of kind " + kind + ", HOUR " + hour, x.placeOf(0, 4), times * LEAKS[kind]);
+                check.due("kind " + kind + ", HOUR " + hour, after(x, 0).bottleOf(0, 0), 50 - times * LEAKS[kind]);
+            }
+            PaidInFog y = World.carryingStrength(50);
+            y.ask(6, hour);
+            check.due("carried, HOUR " + hour, after(y, 0).bottleOf(0, 0), 50 - times * 3);
+        }
     }
 
     private static void leaksToNothing(Check check) {
@@ -512,5 +530,45 @@ final class HourEdges {
         y.fog(6, 8);
         y.ask(0, 1);
         check.due("out by the wind, and in", after(y, 0).placeOf(7, 2), 70 - 17 + 2);
+    }
+
+    /** Eleven bottles of no worth lie at the first place, and the twelfth, of CLASS 3, at the second. */
+    private static PaidInFog twelve() {
+        PaidInFog x = World.fields(0, 0);
+        World.pricesAre(x, 0, 0, 9);
+        for (int b = 0; b < 11; b++) {
+            x.bottle(0, 60);
+        }
+        x.bottle(1, 99);
+        return x;
+    }
+
+    private static void theTwelfthBottle(Check check) {
+        check.sentence(37, "BOTTLES have numbers, from 0 on, 12 at most in all");
+        PaidInFog x = twelve();
+        check.due("its CLASS", x.bottleOf(11, 1), 3);
+        check.due("WORTH", x.worth(), 9);
+        check.due("EACH of CLASS 3", x.each(3), 1);
+        check.due("RICHEST by it", x.richest(), 1);
+        check.due("LASTS", x.lasts(11), 15);
+        check.due("its bit", x.placeOf(1, 3), 1 << 11);
+        x.does(2);
+        check.due("it LEAKS", x.bottleOf(11, 0), 95);
+        check.due("it may be TAKEN", x.may() & 64, 64);
+        x.does(6);
+        check.due("TAKEN", x.bottleOf(11, 2), 100);
+        check.due("carried", x.status(2), 1);
+        check.due("STRENGTH carried", x.by(0, 0, 1), 92);
+        x.does(5);
+        check.due("PUT", x.bottleOf(11, 2), 1);
+        x.does(6);
+        x.image();
+        check.due("SPENT", x.does(4), 9);
+        check.due("EMPTY", x.bottleOf(11, 2), 200);
+        check.due("it is the one that is EMPTY", x.bottle(0, 5), 11);
+        x.restore();
+        check.due("as it was", x.bottleOf(11, 0), 92 - 4 - 3);
+        check.due("as it was", x.bottleOf(11, 2), 100);
+        check.due("AHEAD by it", x.ahead(1, -1), 9);
     }
 }

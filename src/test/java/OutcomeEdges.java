@@ -411,6 +411,20 @@ final class OutcomeEdges {
     }
 
     private static void rulesInWords(Check check) {
+        check.sentence(26, "0 GREEDY: SPEND, else GATHER, else WAIT. 1 FULL: GATHER, else SPEND, else WAIT.");
+        PaidInFog both = World.carryingAll(80);
+        both.fog(0, 10);
+        check.due("GREEDY: SPEND", both.by(0, 1, 0), 9);
+        check.due("FULL: GATHER", both.by(1, 1, 0), 0);
+        check.due("FULL: GATHER", both.by(1, 1, 1), 80 - 3 + 10 - 3);
+        both.fog(0, 9);
+        check.due("FULL: SPEND", both.by(1, 1, 0), 9);
+        both.fog(0, 10);
+        both.ask(2, 0);
+        check.due("GREEDY: GATHER", both.by(0, 1, 1), 80 - 3 + 10 - 3);
+        both.fog(0, 9);
+        check.due("GREEDY: WAIT", both.by(0, 1, 1), 80 - 3);
+        check.due("FULL: WAIT", both.by(1, 1, 1), 80 - 3);
         check.sentence(26, "3 DOWN: GATHER, else PUT, if a CELLAR (VAULT) is here, else ON, else SPEND, else WAIT.");
         for (int kind = 0; kind < 7; kind++) {
             PaidInFog x = World.alone(kind, 9, 0);
@@ -480,6 +494,12 @@ final class OutcomeEdges {
                 }
             }
         }
+        check.sentence(28, "LATEST counts all COINS there are then.");
+        PaidInFog x = World.carryingAll(80, 80);
+        x.does(4);
+        check.due("those that are there", x.latest(0, 0, 9), 0);
+        check.due("and those that are brought", x.latest(0, 1, 18), 2);
+        check.due("and no more", x.latest(0, 1, 19), -1);
     }
 
     private static void latestIs(Check check, PaidInFog x, int rule, int n, int v, int[] coins) {

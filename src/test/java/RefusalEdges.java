@@ -58,8 +58,47 @@ final class RefusalEdges {
         return x;
     }
 
+    /** What a promise says of its refusals. */
+    private static String wordsOf(int promise) {
+        return switch (promise) {
+            case 2 -> "-1; -4; -6 SORT; -7 n above 160.";
+            case 3 -> "Element i of the ROW becomes v: 1. -1; -2; -3; -5.";
+            case 4 -> "-1; -2 also of two SORTS (when both hold something); -3 either; -4 n; -5 i or j below 0, or an "
+                + "end that isn't there.";
+            case 6 -> "SHELF s holds a PLACE, or NOTHING (place NONE): 1, 0. -1.";
+            case 8 -> "-1 SHELF, KIND; -2 also a PLACE of another KIND; -3.";
+            case 9 -> "A PLACE behind all: the number. -1 KIND; -6; -7.";
+            case 10 -> "-5: no such one, another what.";
+            case 11 -> "FOG of a PLACE becomes v: what it was. -1; -6.";
+            case 12 -> "HOUR (6) becomes v: what it was. -6.";
+            case 13 -> "the number (the first EMPTY one, else a new one). -1; -6; -7.";
+            case 14 -> "-1; -5 another what.";
+            case 15 -> "A LAW by the ROW in SHELF s: how many ITEMS. -1; -2; -3; -6 a FAULT.";
+            case 18 -> "BEHIND n HOURS: FOG of a PLACE. -1; -6.";
+            case 19 -> "BEHIND n HOURS: STRENGTH of a BOTTLE. -1; -6.";
+            case 20 -> "BEHIND n HOURS: COINS and WORTH. -6.";
+            case 21 -> "THICKEST. -1.";
+            case 22 -> "WHERE in n HOURS. -5 no PLACES; -6.";
+            case 23 -> "LASTS; NONE. -11 (counted as -1).";
+            case 24 -> "KEEP. -1 also an EMPTY one; -6.";
+            case 25 -> "-5 no such i; -6 n.";
+            case 26 -> "the PLACE (2). -5 another what; -6.";
+            case 27 -> "BEST RULE in n HOURS. -6.";
+            case 28 -> "LATEST; NONE. -16 (v 0 to 99,999; counted as -6).";
+            case 29 -> "PRICE so; NONE. -16 (counted as -6).";
+            case 30 -> "-1; -2; -3; -5 fewer elements than PLACES; -6 n.";
+            case 31 -> "-11; -12; -13; -14 n; -15 fewer elements; -16 n above 60 (counted as -1 to -6).";
+            case 32 -> "-1; -2; -3; -4; -5 also another what; -6 also if it is WRONG.";
+            case 33 -> "-1; -2; -3; -4; -5; -6 likewise.";
+            case 35 -> "EACH (0 to 3; of those that aren't EMPTY). -5.";
+            case 37 -> "An ACT in truth: COINS. -6 it MAY not be.";
+            case 38 -> "A SEASON of n HOURS (1 to 200) by draws: COINS more. -6.";
+            default -> "-6 there is none.";
+        };
+    }
+
     private void first(String fits, Check.Call call, int answer, int countedAs) {
-        check.sentence(number, ORDER);
+        check.sentence(number, wordsOf(number));
         check.refused(fits, RefusalEdges::world, call, answer, countedAs);
     }
 
@@ -68,6 +107,8 @@ final class RefusalEdges {
     }
 
     private static void counts(Check check) {
+        check.sentence(44, ORDER);
+        check.due("-1 and all others", world().place(9, 99, 999), -1);
         check.sentence(44, "nothing changes but how many there were");
         PaidInFog x = world();
         Check.Call[] calls = {y -> y.thick(8, 0), y -> y.says(0, 0), y -> y.law(2), y -> y.row(0, 0, -1),
@@ -262,6 +303,8 @@ final class RefusalEdges {
     }
 
     private static void ofAhead(RefusalEdges ahead) {
+        ahead.first("-5", x -> x.ahead(4, 4), -5);
+        ahead.first("-6", x -> x.ahead(5, -1), -6);
         ahead.check.sentence(25, "-5 for a number that goes with another one (an i of a k, one that is found by a "
             + "number) is looked at only if that other one may be; else it is -6.");
         int[] numbers = {0, 5, -1, Integer.MIN_VALUE, Integer.MAX_VALUE};

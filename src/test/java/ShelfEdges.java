@@ -38,6 +38,12 @@ final class ShelfEdges {
         check.due("no PLACE 0", new PaidInFog().fog(0, 1), -1);
         check.due("no BOTTLE 0", new PaidInFog().bottleOf(0, 0), -1);
         check.due("all FOG", new PaidInFog().status(10), 0);
+        check.sentence(1, "HOUR (0 to 23; 0 at first), DAYS (0 at first).");
+        check.due("HOUR", new PaidInFog().status(5), 0);
+        check.due("DAYS", new PaidInFog().status(6), 0);
+        check.sentence(1, "YOU are at a PLACE (0 at first)");
+        check.due("YOU", new PaidInFog().status(3), 0);
+        check.due("YOU, with PLACES", World.full().status(3), 0);
         check.sentence(1, "SHELVES 0 to 7 hold NOTHING (at first), a ROW, or a PLACE.");
         for (int s = 0; s < 8; s++) {
             check.due("SHELF " + s, new PaidInFog().holds(s), -1);
@@ -384,6 +390,15 @@ final class ShelfEdges {
             check.due("refusals -5", x.status(15), 1);
             check.due("refusals -6", x.status(16), 1);
         }
+        for (int p = 0; p < 8; p++) {
+            for (int move : new int[] {-4, -3, -2, -1, 3, 4, 5, 6}) {
+                PaidInFog x = World.crowded();
+                x.act(6, 2, 1);
+                check.due("act(" + p + ", " + move + ", 5)", x.act(p, move, 5), 0);
+                check.due("bodies", x.status(19), 0);
+                check.due("THE TRACE", x.trace(0), -1);
+            }
+        }
         check.due("PLACE 7 of eight", World.crowded().act(7, 0, 5), 12);
         check.due("no PLACES", new PaidInFog().act(0, 0, 5), 0);
     }
@@ -399,6 +414,17 @@ final class ShelfEdges {
             check.due("trace(" + i + ")", x.trace(i), -1);
         }
         check.due("at first", new PaidInFog().trace(0), -1);
+        check.sentence(41, "in the order in which they began; the first 20 are kept");
+        for (int p = 0; p < 8; p++) {
+            for (int move = 0; move < 3; move++) {
+                PaidInFog y = World.crowded();
+                y.act(p, move, 5);
+                int ran = y.status(19);
+                for (int i = 0; i < 20; i++) {
+                    check.due("kept, body " + i + " of " + ran, y.trace(i) != -1 ? 1 : 0, i < ran ? 1 : 0);
+                }
+            }
+        }
         check.sentence(41, "the bodies that ran in the latest act()");
         x.act(0, 0, 1);
         check.due("of the latest", x.trace(0), 10);

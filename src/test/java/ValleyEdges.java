@@ -94,6 +94,15 @@ final class ValleyEdges {
             check.bounds("of CLASS " + rank, World::busy, (x, v) -> x.ask(what, v), 0, 99, -6);
         }
         check.bounds("what", World::busy, (x, v) -> x.ask(v, 1), 0, 6, -6);
+        check.sentence(12, "WIND (what 0; told as -1 to 1, and 1 more in what it was)");
+        for (int was = -1; was <= 1; was++) {
+            for (int wind = -1; wind <= 1; wind++) {
+                PaidInFog x = new PaidInFog();
+                x.ask(0, was);
+                check.due("what it was", x.ask(0, wind), was + 1);
+                check.due("what it is", x.status(7), wind + 1);
+            }
+        }
     }
 
     private static boolean isUp(int sun, int hour) {
